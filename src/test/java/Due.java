@@ -9,6 +9,9 @@ import java.util.NoSuchElementException;
  */
 final class Due {
     private final String title;
+    private String sentence = "";
+    private int sentences;
+    private int linesBefore;
     private int wrong;
     private int lines;
 
@@ -16,30 +19,50 @@ final class Due {
         this.title = title;
     }
 
+    /** What follows tests this sentence of the document. */
+    void says(String words) {
+        isTrue("some answer is asked for", sentences == 0 || lines > linesBefore);
+        sentence = ", \"" + words + "\"";
+        sentences++;
+        linesBefore = lines;
+    }
+
     /** The lines are calls on one new object. */
     void run(String... calls) {
-        ActorMachine machine = new ActorMachine();
+        String[] got = answers(calls);
         for (int i = 0; i < calls.length; i++) {
             lines++;
-            String got = answer(machine, calls[i]);
             String want = wanted(calls[i]);
-            if (!got.equals(want)) {
+            if (!got[i].equals(want)) {
                 wrong++;
-                System.out.println(title + ", call " + i + ": " + calls[i] + " answered " + got + ", due is " + want);
+                System.out.println(title + sentence + ", call " + i + " of " + String.join("; ", calls) + ": "
+                        + calls[i] + " answered " + got[i] + ", due is " + want);
             }
         }
+    }
+
+    /** What the calls answer on one new object; what they say to be due is left aside. */
+    static String[] answers(String... calls) {
+        ActorMachine machine = new ActorMachine();
+        String[] got = new String[calls.length];
+        for (int i = 0; i < calls.length; i++) {
+            got[i] = answer(machine, calls[i]);
+        }
+        return got;
     }
 
     void isTrue(String what, boolean holds) {
         lines++;
         if (!holds) {
             wrong++;
-            System.out.println(title + ": " + what + " does not hold");
+            System.out.println(title + sentence + ": " + what + " does not hold");
         }
     }
 
     void close() {
-        System.out.println(title + ": " + lines + " answers, " + wrong + " wrong");
+        isTrue("some answer is asked for", lines > linesBefore);
+        String of = sentences == 0 ? "" : sentences + " sentences, ";
+        System.out.println(title + ": " + of + lines + " answers, " + wrong + " wrong");
         if (wrong != 0) {
             System.exit(1);
         }
