@@ -100,6 +100,10 @@ public final class EdgeStepTest {
         run("(A,B):!AB!A+B1!AA;", " = 0", "about 1 6 = 3", "deliver 0 1 = 1", "deliver 0 1 = 1", "deliver 0 1 = 1",
                 "leaf 1 0 0 = 5", "leaf 1 1 0 = 6", "leaf 1 2 0 = #1");
         DUE.says("None: there is no STEP.");
+        // no int is taken for what stands behind the last clause
+        for (int x = -999; x <= 999; x++) {
+            DUE.run("program 0 a:;", "spawn 0 8 = 0", "mail 0 0 " + x + " 0", "step 0" + NO_STEP);
+        }
         DUE.run("program 0 _:;", "spawn 0 8 = 0", "step 0" + NO_STEP);
         DUE.run("spawn 0 8 = 0", "mail 0 0 1 0", "step 0" + NO_STEP, "about 0 1 = 1");
         DUE.run("program 0 1:~1;", "spawn 0 8 = 0", "mail 0 0 2 0", "mail 0 0 3 0", "step 0" + NO_STEP, "about 0 1 = 2",
