@@ -311,7 +311,7 @@ public final class ActorMachine {
         }
 
         static boolean isActor(long term) {
-            return term >= LIFT + FIRST_ACTOR && term <= FIELD;
+            return term >= LIFT + FIRST_ACTOR && term < LIFT + FIRST_ACTOR + ACTORS;
         }
 
         static int countLeaves(long term) {
